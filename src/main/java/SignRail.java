@@ -377,8 +377,8 @@ public final class SignRail {
     private int readGlyph(int shape, int distance) {
         int nearest = nearestGlyph(shape, NONE);
         int second = nearestGlyph(shape, nearest);
-        int lead = differing(shape, shapes[second]) - differing(shape, shapes[nearest]);
-        return lead >= distance ? nearest : second;
+        int gap = differing(shape, shapes[second]) - differing(shape, shapes[nearest]);
+        return gap >= distance ? nearest : second;
     }
 
     private int nearestGlyph(int shape, int except) {

@@ -19,6 +19,8 @@ public final class ModelTest {
     private int[] in = new int[6];
     private boolean black;
     private String text;
+    private int[] lastWalk = new int[6];
+    private String lastGoal;
 
     private ModelTest(long seed) {
         random = new Random(seed);
@@ -177,10 +179,21 @@ public final class ModelTest {
         return model.isTooWide(text) ? STATE : model.cut(in[0], in[1], text, in[4]);
     }
 
-    private long dueOfWalkers(int kind) {
-        in[0] = pick(places);
-        in[1] = 0;
+    /** Half of the walks are those that were asked last, so that a kept one would be seen if it is out of date. */
+    private void pickWalk() {
+        if (random.nextBoolean()) {
+            in = lastWalk.clone();
+            text = lastGoal;
+        } else {
+            in[0] = pick(places);
+        }
         in[4] = pick(31);
+        lastWalk = in.clone();
+        lastGoal = text;
+    }
+
+    private long dueOfWalkers(int kind) {
+        pickWalk();
         if (!isIn(in[0], 0, 7)) {
             return INDEX;
         }
