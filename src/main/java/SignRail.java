@@ -364,6 +364,7 @@ public final class SignRail {
         }
     }
 
+    /** NO_TEXT if there is no sign, so that it is never read as a goal. */
     private int readText(int way) {
         int many = manyOf(signTexts[way]);
         int number = 0;
@@ -434,7 +435,7 @@ public final class SignRail {
         for (int exit = 0; exit < EXITS; exit++) {
             int way = wayOf(place, exit);
             if (leads[way] != NONE) {
-                if (isReadAs(way, goal)) {
+                if (readText(way) == goal) {
                     return way;
                 }
                 if (untaken == NONE && (taken & (1 << way)) == 0) {
@@ -443,9 +444,5 @@ public final class SignRail {
             }
         }
         return untaken;
-    }
-
-    private boolean isReadAs(int way, int goal) {
-        return manyOf(signTexts[way]) == manyOf(goal) && readText(way) == goal;
     }
 }

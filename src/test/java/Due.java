@@ -1,8 +1,14 @@
 /** Compares answers with those that are due, and counts the wrong ones of one test. */
 final class Due {
     private static int wrong = 0;
+    private static String asked = "";
 
     private Due() {
+    }
+
+    /** Names the sentence of the document that the next calls are held against. */
+    static void sentence(String words) {
+        asked = "[" + words + "] ";
     }
 
     static void is(String call, long got, long want) {
@@ -44,7 +50,7 @@ final class Due {
 
     private static void tell(String fault) {
         wrong++;
-        System.out.println(fault);
+        System.out.println(asked + fault);
     }
 
     static void end() {
