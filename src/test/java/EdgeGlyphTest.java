@@ -55,7 +55,8 @@ public final class EdgeGlyphTest {
         SignRail x = new SignRail();
         for (int glyph = 0; glyph < 8; glyph++) {
             for (int cell = 0; cell < 25; cell++) {
-                Due.is("cell " + cell + " of " + glyph, x.stroke(glyph, cell % 5, cell / 5, cell % 5, cell / 5, false), 0);
+                int changed = x.stroke(glyph, cell % 5, cell / 5, cell % 5, cell / 5, false);
+                Due.is("cell " + cell + " of " + glyph, changed, 0);
             }
         }
     }
@@ -141,7 +142,8 @@ public final class EdgeGlyphTest {
     private static void strokeAlongNoLine() {
         Due.sentence("2: IllegalArgumentException if the line is not along a row, a column or a diagonal");
         SignRail x = new SignRail();
-        for (int[] far : new int[][] {{1, 2}, {2, 1}, {1, 3}, {3, 1}, {1, 4}, {4, 1}, {2, 3}, {3, 2}, {2, 4}, {4, 2}, {3, 4}, {4, 3}}) {
+        int[][] all = {{1, 2}, {1, 3}, {1, 4}, {2, 1}, {2, 3}, {2, 4}, {3, 1}, {3, 2}, {3, 4}, {4, 1}, {4, 2}, {4, 3}};
+        for (int[] far : all) {
             String call = far[0] + " across and " + far[1];
             Due.throwsArgument(call + " down", () -> x.stroke(0, 0, 0, far[0], far[1], true));
             Due.throwsArgument(call + " up", () -> x.stroke(0, 0, 4, far[0], 4 - far[1], true));
@@ -161,7 +163,8 @@ public final class EdgeGlyphTest {
 
     private static void strokeIncludesBothEnds() {
         Due.sentence("2: both included");
-        for (int[] ends : new int[][] {{1, 1, 2, 1}, {1, 1, 1, 2}, {1, 1, 2, 2}, {1, 2, 2, 1}, {1, 3, 4, 3}, {3, 1, 0, 4}}) {
+        int[][] all = {{1, 1, 2, 1}, {1, 1, 1, 2}, {1, 1, 2, 2}, {1, 2, 2, 1}, {1, 3, 4, 3}, {3, 1, 0, 4}};
+        for (int[] ends : all) {
             SignRail x = new SignRail();
             String call = ends[0] + ", " + ends[1] + " to " + ends[2] + ", " + ends[3];
             x.stroke(3, ends[0], ends[1], ends[2], ends[3], true);
