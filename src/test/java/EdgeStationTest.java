@@ -34,6 +34,7 @@ public final class EdgeStationTest {
         textWidthBelowZero();
         textWidthNotLessThanThePower();
         textWidthIsOfNow();
+        refusedTextWidthChangesNothing();
         Due.end();
     }
 
@@ -395,5 +396,15 @@ public final class EdgeStationTest {
         x.stroke(0, 0, 0, 4, 4, false);
         Due.is("empty again", x.textWidth(0, 1), 2);
         Due.is("nothing is cut", x.cost(), 0);
+    }
+
+    private static void refusedTextWidthChangesNothing() {
+        Due.sentence("8: a call that throws changes nothing");
+        Picture.unchangedBy("textWidth", x -> {
+            Due.throwsArgument("many 0", () -> x.textWidth(0, 0));
+            Due.throwsArgument("many 6", () -> x.textWidth(0, 6));
+            Due.throwsArgument("text 8", () -> x.textWidth(8, 1));
+            Due.throwsArgument("text -1", () -> x.textWidth(-1, 5));
+        });
     }
 }
