@@ -8,23 +8,26 @@ import java.util.TreeSet;
 
 /** The public face: what the document lists, and nothing else that is not private. */
 public final class FaceTest {
+    private static final String INDEX = "IndexOutOfBoundsException";
+    private static final String ARGUMENT = "IllegalArgumentException";
+    private static final String STATE = "IllegalStateException";
     private static final String[] FACE = {
-        "int stroke(int,int,int,int,int,boolean)",
-        "int difference(int,int)",
-        "int width(int)",
-        "int space(int,int,int)",
-        "int lead(int,int,int)",
-        "void name(int,int,int)",
-        "int textWidth(int,int)",
-        "int cut(int,int,int,int,int)",
-        "boolean remove(int,int)",
-        "boolean isOld(int,int)",
-        "int remake()",
-        "int read(int,int)",
+        "int stroke(int,int,int,int,int,boolean) throws " + INDEX + "," + ARGUMENT,
+        "int difference(int,int) throws " + INDEX,
+        "int width(int) throws " + INDEX,
+        "int space(int,int,int) throws " + INDEX + "," + ARGUMENT,
+        "int lead(int,int,int) throws " + INDEX,
+        "void name(int,int,int) throws " + INDEX + "," + ARGUMENT,
+        "int textWidth(int,int) throws " + ARGUMENT,
+        "int cut(int,int,int,int,int) throws " + INDEX + "," + ARGUMENT + "," + STATE,
+        "boolean remove(int,int) throws " + INDEX,
+        "boolean isOld(int,int) throws " + INDEX,
+        "int remake() throws " + STATE,
+        "int read(int,int) throws " + INDEX,
         "long cost()",
-        "int walk(int,int,int)",
-        "int walkBySteps(int,int,int)",
-        "int placeBehind(int,int,int,int)",
+        "int walk(int,int,int) throws " + INDEX + "," + ARGUMENT,
+        "int walkBySteps(int,int,int) throws " + INDEX + "," + ARGUMENT,
+        "int placeBehind(int,int,int,int) throws " + INDEX + "," + ARGUMENT,
     };
 
     public static void main(String[] args) {
@@ -44,6 +47,7 @@ public final class FaceTest {
             if (!Modifier.isPrivate(method.getModifiers())) {
                 open.add(line(method));
                 openNames.add(method.getName());
+                Due.is(method.getName() + " is public and no more", method.getModifiers(), Modifier.PUBLIC);
             }
         }
         Set<String> due = new TreeSet<>(Arrays.asList(FACE));
@@ -62,7 +66,13 @@ public final class FaceTest {
             line.append(between).append(type);
             between = ",";
         }
-        return line.append(')').toString();
+        line.append(')');
+        between = " throws ";
+        for (Class<?> thrown : method.getExceptionTypes()) {
+            line.append(between).append(thrown.getSimpleName());
+            between = ",";
+        }
+        return line.toString();
     }
 
     private static void fields() {
@@ -70,6 +80,7 @@ public final class FaceTest {
             int kind = field.getModifiers();
             boolean isFace = field.getName().equals("NONE");
             Due.is("field " + field.getName() + " is private", Modifier.isPrivate(kind), !isFace);
+            Due.is("field " + field.getName() + " is public", Modifier.isPublic(kind), isFace);
             Due.is("static " + field.getName() + " not final", Modifier.isStatic(kind) && !Modifier.isFinal(kind), false);
         }
     }
